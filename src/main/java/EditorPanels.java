@@ -252,24 +252,36 @@ public final class EditorPanels {
         if (kind < 0 || kind >= RUN_MACRO || n < 1 || n > MAX_NUMBER) {
             return OUTSIDE;
         }
+        if (kind == DROP_WAITING) {
+            waiting.clear();
+            return DONE;
+        }
+        history.prepare(page.sheet);
+        int answer;
         switch (kind) {
-            case DROP_WAITING:
-                waiting.clear();
-                return DONE;
             case COPY:
             case MOVE:
-                return giveSource(kind, line, page.sheet.lastOf(line, n));
+                answer = giveSource(kind, line, page.sheet.lastOf(line, n));
+                break;
             case BEHIND:
             case AHEAD:
-                return givePlace(kind, line);
+                answer = givePlace(kind, line);
+                break;
             case BLOCK_DELETE:
             case BLOCK_COPY:
             case BLOCK_MOVE:
             case BLOCK_REPEAT:
-                return waiting.isBlockOpen() ? closeBlock(kind, line, n) : openBlock(kind, line);
+                answer = waiting.isBlockOpen() ? closeBlock(kind, line, n) : openBlock(kind, line);
+                break;
             default:
-                return waiting.isAny() ? REFUSED : obeyAtOnce(line, kind, n);
+                answer = waiting.isAny() ? REFUSED : obeyAtOnce(line, kind, n);
+                break;
         }
+        if (answer == DONE) {
+            waiting.clear();
+            history.keepPrepared();
+        }
+        return answer;
     }
 
     private int obeyAtOnce(int line, int kind, int n) {
@@ -277,19 +289,17 @@ public final class EditorPanels {
             case ADD_BLANKS:
                 return addBlanks(line, n);
             case DELETE:
-                return deleteLines(line, page.sheet.lastOf(line, n));
+                page.remove(line, page.sheet.lastOf(line, n));
+                return DONE;
             case REPEAT:
                 return repeatLines(line, line, n);
             case SHIFT_RIGHT:
-                history.keep(page.sheet);
                 page.shiftRight(line, n);
                 return DONE;
             case SHIFT_LEFT:
-                history.keep(page.sheet);
                 page.shiftLeft(line, n);
                 return DONE;
             default:
-                history.keep(page.sheet);
                 page.sheet.markLines(line, page.sheet.lastOf(line, n), EXCLUDED);
                 return DONE;
         }
@@ -299,14 +309,7 @@ public final class EditorPanels {
         if (!page.hasRoomFor(n)) {
             return FULL;
         }
-        history.keep(page.sheet);
         page.insertBlanks(line + 1, n);
-        return DONE;
-    }
-
-    private int deleteLines(int first, int last) {
-        history.keep(page.sheet);
-        page.remove(first, last);
         return DONE;
     }
 
@@ -314,7 +317,6 @@ public final class EditorPanels {
         if (!page.hasRoomFor((last - first + 1) * times)) {
             return FULL;
         }
-        history.keep(page.sheet);
         page.copyLines(first, last, times, last + 1);
         return DONE;
     }
@@ -323,18 +325,14 @@ public final class EditorPanels {
         if (waiting.isBlockOpen() || waiting.isSourceGiven()) {
             return REFUSED;
         }
-        return matchSource(kind, first, last);
+        return meet(kind, first, last, waiting.placeKind, waiting.placeLine);
     }
 
     private int givePlace(int kind, int line) {
         if (waiting.isBlockOpen() || waiting.isPlaceGiven()) {
             return REFUSED;
         }
-        if (!waiting.isSourceGiven()) {
-            waiting.keepPlace(kind, line);
-            return WAITS;
-        }
-        return transfer(waiting.sourceKind, waiting.sourceFirst, waiting.sourceLast, kind, line);
+        return meet(waiting.sourceKind, waiting.sourceFirst, waiting.sourceLast, kind, line);
     }
 
     private int openBlock(int kind, int line) {
@@ -352,44 +350,41 @@ public final class EditorPanels {
         }
         int first = Math.min(line, waiting.blockLine);
         int last = Math.max(line, waiting.blockLine);
-        if (kind == BLOCK_COPY) {
-            return matchSource(COPY, first, last);
+        switch (kind) {
+            case BLOCK_COPY:
+                return meet(COPY, first, last, waiting.placeKind, waiting.placeLine);
+            case BLOCK_MOVE:
+                return meet(MOVE, first, last, waiting.placeKind, waiting.placeLine);
+            case BLOCK_REPEAT:
+                return repeatLines(first, last, n);
+            default:
+                page.remove(first, last);
+                return DONE;
         }
-        if (kind == BLOCK_MOVE) {
-            return matchSource(MOVE, first, last);
-        }
-        int answer = kind == BLOCK_DELETE ? deleteLines(first, last) : repeatLines(first, last, n);
-        if (answer == DONE) {
-            waiting.clear();
-        }
-        return answer;
     }
 
-    private int matchSource(int kind, int first, int last) {
-        if (!waiting.isPlaceGiven()) {
-            waiting.keepSource(kind, first, last);
+    /** Copies or moves; the one of source and place that the other is not there for (its kind is 0) waits. */
+    private int meet(int sourceKind, int first, int last, int placeKind, int placeLine) {
+        if (placeKind == 0) {
+            waiting.keepSource(sourceKind, first, last);
             return WAITS;
         }
-        return transfer(kind, first, last, waiting.placeKind, waiting.placeLine);
-    }
-
-    /** Copies or moves; what waits is cleared only when that is done, so that a refusal lets the first part wait on. */
-    private int transfer(int kind, int first, int last, int placeKind, int placeLine) {
-        boolean moves = kind == MOVE;
-        if (moves && placeLine >= first && placeLine <= last) {
-            return REFUSED;
+        if (sourceKind == 0) {
+            waiting.keepPlace(placeKind, placeLine);
+            return WAITS;
         }
-        if (!moves && !page.hasRoomFor(last - first + 1)) {
+        int target = placeKind == BEHIND ? placeLine + 1 : placeLine;
+        if (sourceKind == MOVE) {
+            if (placeLine >= first && placeLine <= last) {
+                return REFUSED;
+            }
+            page.moveLines(first, last, target);
+            return DONE;
+        }
+        if (!page.hasRoomFor(last - first + 1)) {
             return FULL;
         }
-        history.keep(page.sheet);
-        int target = placeKind == BEHIND ? placeLine + 1 : placeLine;
-        if (moves) {
-            page.moveLines(first, last, target);
-        } else {
-            page.copyLines(first, last, 1, target);
-        }
-        waiting.clear();
+        page.copyLines(first, last, 1, target);
         return DONE;
     }
 
@@ -418,11 +413,11 @@ public final class EditorPanels {
      * many texts, so each is small, and they compare as numbers.
      */
     private static final class Text {
-        private static final int BITS = 7;
         private static final int MASK = 127;
         private static final int PER_LONG = 9;
         private static final int LONGS = MAX_CHARACTERS / PER_LONG;
         private static final int OFFSET = FIRST_CHARACTER - 1;
+        private static final int[] SHIFTS = {56, 49, 42, 35, 28, 21, 14, 7, 0};
 
         private final long[] packed = new long[LONGS];
         final int length;
@@ -430,19 +425,15 @@ public final class EditorPanels {
         Text(int[] characters, int wanted) {
             length = Math.max(0, Math.min(MAX_CHARACTERS, Math.min(characters.length, wanted)));
             for (int i = 0; i < length; i++) {
-                packed[i / PER_LONG] |= (long) (characters[i] - OFFSET) << shiftOf(i);
+                packed[i / PER_LONG] |= (long) (characters[i] - OFFSET) << SHIFTS[i % PER_LONG];
             }
-        }
-
-        private static int shiftOf(int i) {
-            return BITS * (PER_LONG - 1 - i % PER_LONG);
         }
 
         int characterAt(int i) {
             if (i < 0 || i >= length) {
                 return NONE;
             }
-            return (int) ((packed[i / PER_LONG] >>> shiftOf(i)) & MASK) + OFFSET;
+            return (int) ((packed[i / PER_LONG] >>> SHIFTS[i % PER_LONG]) & MASK) + OFFSET;
         }
 
         int compareWith(Text other) {
@@ -752,7 +743,8 @@ public final class EditorPanels {
         }
 
         void insertBlanks(int target, int n) {
-            openGap(target, n);
+            sheet.openGap(target, n);
+            pushCursor(target, n);
             for (int i = 0; i < n; i++) {
                 sheet.clearLine(target + i, blank);
             }
@@ -771,7 +763,8 @@ public final class EditorPanels {
         void copyLines(int first, int last, int times, int target) {
             int n = last - first + 1;
             scratch.take(sheet, first, last, 1);
-            openGap(target, n * times);
+            sheet.openGap(target, n * times);
+            pushCursor(target, n * times);
             for (int i = 0; i < times; i++) {
                 sheet.take(scratch, 1, n, target + i * n);
             }
@@ -797,8 +790,7 @@ public final class EditorPanels {
             return closed >= landing ? closed + n : closed;
         }
 
-        private void openGap(int target, int n) {
-            sheet.openGap(target, n);
+        private void pushCursor(int target, int n) {
             if (cursorLine >= target) {
                 cursorLine += n;
             }
@@ -975,18 +967,13 @@ public final class EditorPanels {
             states[next].become(sheet);
         }
 
-        void keep(Sheet sheet) {
-            prepare(sheet);
-            keepPrepared();
-        }
-
         void keepIfAnother(Sheet sheet) {
             if (!states[next].isLike(sheet)) {
                 keepPrepared();
             }
         }
 
-        private void keepPrepared() {
+        void keepPrepared() {
             next = (next + 1) % PLACES;
             size = Math.min(MAX_ACTS, size + 1);
         }

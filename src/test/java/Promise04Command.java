@@ -5,6 +5,7 @@ public final class Promise04Command {
         refusals(check);
         blanksDeletionsRepeats(check);
         limitOfLines(check);
+        lastLineOfAll(check);
         shiftRight(check);
         shiftLeft(check);
         excluding(check);
@@ -87,6 +88,31 @@ public final class Promise04Command {
         check.due("one more", x.command(1, 2, 1), 1);
         check.due("lines()", x.lines(), 300);
         check.due("refusals are no acts", x.count(4), acts + 4);
+    }
+
+    /** Line 300 is a line as the others are. */
+    private static void lastLineOfAll(Check check) {
+        EditorPanels x = Check.pageOf(299);
+        x.sign(299, 'z');
+        x.command(299, 8, 1);
+        check.due("one more ahead of it", x.command(1, 2, 1), 1);
+        check.due("it is line 300", Check.text(x, 300), "az");
+        check.due("with its mark", x.count(3), 1);
+        check.due("delete it", x.command(300, 1, 1), 1);
+        check.due("its mark is gone", x.count(3), 0);
+        x.undo();
+        check.due("there again", Check.text(x, 300), "az");
+        check.due("with its mark", x.count(3), 1);
+        x.command(300, 4, 1);
+        check.due("to the beginning", x.command(1, 6, 1), 1);
+        check.due("line 1", Check.text(x, 1), "az");
+        check.due("line 300", Check.text(x, 300), "a");
+        check.due("sorted behind all", x.sort(1, 300), 300);
+        check.due("line 300", Check.text(x, 300), "az");
+        x.command(300, 1, 1);
+        x.command(298, 2, 1);
+        check.due("line 300", Check.text(x, 300), "a");
+        check.due("another line 300", x.count(3), 0);
     }
 
     private static void shiftRight(Check check) {

@@ -40,5 +40,10 @@ public final class Promise15Panel {
             check.due("back", x.panel(0, 0), 1 + i % 9);
         }
         check.due("0 at last", x.panel(0, 0), 0);
+
+        EditorPanels y = new EditorPanels(1);
+        for (int i = 0; i < 512; i++) {
+            check.due("panel", y.panel(0, 1 + i % 9), 1 + i % 9);
+        }
     }
 }
