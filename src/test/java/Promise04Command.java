@@ -136,6 +136,11 @@ public final class Promise04Command {
         x.undo();
         check.due("undone", Check.text(x, 3), "  ");
         EditorPanels y = Check.page("b");
+        y.command(1, 7, 72);
+        check.due("one character, by 72", Check.text(y, 1), "b");
+        check.due("lost", y.count(3), 1);
+        y.undo();
+        check.due("not lost", y.count(3), 0);
         y.command(1, 8, 1);
         check.due("lost", y.count(3), 1);
         y.command(1, 7, 1);

@@ -61,6 +61,7 @@ public final class Promise04Waiting {
         pair(check, at(4, 4, 100), at(1, 6, 1), "|d|e|a|b|c");
         pair(check, at(1, 5, 1), at(4, 4, 2), "|a|d|e|b|c");
         pair(check, at(2, 4, 2), at(1, 5, 1), "|a|b|c|d|e");
+        pair(check, at(2, 4, 1), at(1, 5, 1), "|a|b|c|d|e");
         pair(check, at(2, 4, 2), at(4, 6, 1), "|a|b|c|d|e");
         pair(check, at(2, 4, 2), at(5, 5, 1), "|a|d|e|b|c");
         pair(check, at(1, 4, 4), at(5, 5, 1), "|e|a|b|c|d");

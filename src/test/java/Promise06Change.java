@@ -112,6 +112,15 @@ public final class Promise06Change {
         check.due("by itself", x.change(false), 1);
         check.due("no act", x.count(4), 0);
 
+        EditorPanels same = with("ab", "cb", "ab", "zab");
+        check.due("by one of its length", same.change(true), 2);
+        check.due("lines", Check.texts(same), "|cb|zcb");
+        Check.word(same, "cb", false);
+        Check.word(same, "ab", true);
+        check.due("and to a lesser one", same.change(true), 2);
+        check.due("lines", Check.texts(same), "|ab|zab");
+        check.due("two acts", same.count(4), 2);
+
         EditorPanels y = with("ab", "bac", "abx");
         y.find(1);
         y.change(false);
