@@ -127,6 +127,35 @@ public final class SentencesOfActs {
             check.due("round " + round, y.lines(), 1 + 10 * round);
             check.due("round " + round, y.undo(), 0);
         }
+        twentyActsAndCallsThatAreNone(check);
+    }
+
+    /** What is refused, waits or alters nothing takes none of the 20 away. */
+    private static void twentyActsAndCallsThatAreNone(Check check) {
+        for (int call = 0; call <= 5; call++) {
+            EditorPanels x = Check.page("a");
+            for (int i = 1; i <= 20; i++) {
+                x.command(1, 0, 1);
+            }
+            x.sign(1, 'b');
+            switch (call) {
+                case 0 -> x.command(1, 3, 1);
+                case 1 -> x.command(1, 10, 1);
+                case 2 -> x.sort(2, 3);
+                case 3 -> x.exclude(2, 1);
+                case 4 -> {
+                    x.word('z', false);
+                    x.change(true);
+                }
+                default -> {
+                    x.command(1, 2, 100);
+                    x.command(1, 2, 100);
+                    x.command(1, 2, 100);
+                }
+            }
+            undoAll(x, 0);
+            check.due("call " + call, Check.texts(x), call == 5 ? "|a||" : "|a");
+        }
     }
 
     @Sentence("lines are as they were ahead of it (with their marks)")
@@ -143,6 +172,14 @@ public final class SentencesOfActs {
         y.change(true);
         y.exclude(1, 3);
         asAhead(check, y, "sort(), change(), exclude()");
+        EditorPanels z = Check.pageOf(300);
+        z.sign(300, 'z');
+        z.command(300, 8, 1);
+        z.exclude(300, 300);
+        z.command(1, 1, 100);
+        z.undo();
+        check.due("line 300", Check.text(z, 300), "az");
+        check.due("its marks", Check.counts(z), " 0 -1 1 1 5 0 0");
     }
 
     /** Its first line is excluded, its second one lost. */

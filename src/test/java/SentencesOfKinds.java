@@ -58,6 +58,14 @@ public final class SentencesOfKinds {
         check.due("all, to the last", x.command(1, 1, 3), 1);
         check.due("lines()", x.lines(), 0);
         check.due("none is left", x.command(1, 1, 1), -2);
+        EditorPanels y = Check.page("a", "b", "c", "d");
+        y.exclude(3, 3);
+        y.command(4, 8, 1);
+        y.command(1, 1, 2);
+        check.due("the others keep their marks", y.shown(1), -1);
+        check.due("the others keep their marks", y.shown(2), 2);
+        y.command(2, 7, 1);
+        check.due("the others keep their marks", Check.counts(y), " 0 -1 1 0 4 0 0");
     }
 
     @Sentence("2 it comes n times more, behind it")

@@ -88,11 +88,17 @@ public final class SentencesOfLines {
     @Sentence("also when its line is gone")
     static void cursorOfADeletedLine(Check check) {
         for (int first = 1; first <= 3; first++) {
-            EditorPanels x = withCursorAt("*", "a", "b", "*", "*");
-            x.command(first, 1, 4 - first);
-            check.due("deleted from " + first + " on", x.count(0), 0);
-            check.due("deleted from " + first + " on", x.count(1), -1);
+            for (int last = 3; last <= 4; last++) {
+                EditorPanels x = withCursorAt("*", "a", "b", "*", "*", "*");
+                x.command(first, 1, last - first + 1);
+                check.due("deleted from " + first + " to " + last, x.count(0), 0);
+                check.due("deleted from " + first + " to " + last, x.count(1), -1);
+            }
         }
+        EditorPanels w = withCursorAt("*", "a", "*", "b");
+        w.command(3, 1, 1);
+        w.command(1, 1, 1);
+        check.due("others are gone", w.count(0), 1);
         EditorPanels y = withCursorAt("*", "a", "*", "*");
         y.command(3, 10, 1);
         y.command(1, 10, 1);
@@ -118,6 +124,35 @@ public final class SentencesOfLines {
         x.change(true);
         check.due("an empty line", x.count(0), 0);
         check.due("an empty line", x.count(1), -1);
+    }
+
+    @Sentence("it stays with its line")
+    static void cursorWhileLinesAreMovedOrCopied(Check check) {
+        for (int first = 1; first <= 4; first++) {
+            for (int last = first; last <= 4; last++) {
+                for (int target = 1; target <= 5; target++) {
+                    moveOrCopy(check, 3, first, last, target);
+                    if (target < first || target > last + 1) {
+                        moveOrCopy(check, 4, first, last, target);
+                    }
+                }
+            }
+        }
+    }
+
+    /** Ahead of the target's line, or behind the last one, with the cursor on each line in turn. */
+    private static void moveOrCopy(Check check, int kind, int first, int last, int target) {
+        int n = last - first + 1;
+        for (int line = 1; line <= 4; line++) {
+            EditorPanels x = withCursorAt(String.valueOf((char) ('a' + line - 1)), "a", "b", "c", "d");
+            x.command(first, kind, n);
+            x.command(target == 5 ? 4 : target, target == 5 ? 5 : 6, 1);
+            String call = "line " + line + ", " + first + " to " + last + " by kind " + kind + " to " + target;
+            check.due(call, x.at(x.count(0), 0), 'a' + line - 1);
+            if (kind == 3) {
+                check.due(call, x.count(0), target <= line ? line + n : line);
+            }
+        }
     }
 
     @Sentence("it stays with its line")

@@ -143,6 +143,10 @@ public final class SentencesOfPromises14To17 {
             check.due("panel(0, " + v + ")", x.panel(0, v), v);
             check.due("count(6)", x.count(6), v);
         }
+        EditorPanels y = new EditorPanels(1);
+        for (int i = 0; i < 512; i++) {
+            check.due("as often as an object is called", y.panel(0, 1 + i % 9), 1 + i % 9);
+        }
     }
 
     @Sentence("0 back to the one before (0 at last): the panel")
