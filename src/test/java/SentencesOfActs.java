@@ -176,7 +176,8 @@ public final class SentencesOfActs {
         z.sign(300, 'z');
         z.command(300, 8, 1);
         z.exclude(300, 300);
-        z.command(1, 1, 100);
+        z.command(300, 1, 1);
+        z.line();
         z.undo();
         check.due("line 300", Check.text(z, 300), "az");
         check.due("its marks", Check.counts(z), " 0 -1 1 1 5 0 0");

@@ -120,6 +120,10 @@ public final class SentencesOfLines {
         x.sign(1, 'a');
         check.due("there is one again", x.count(0), 1);
         check.due("there is one again", x.count(1), 2);
+        x.command(1, 7, 1);
+        check.due("the same place in a shifted line", x.count(1), 2);
+        x.undo();
+        x.find(1);
         Check.word(x, " *a", false);
         x.change(true);
         check.due("an empty line", x.count(0), 0);

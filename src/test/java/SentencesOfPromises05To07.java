@@ -165,6 +165,11 @@ public final class SentencesOfPromises05To07 {
         z.find(1);
         check.due("at the line's end", z.change(false), 1);
         check.due("at the line's end", Check.text(z, 1), Check.repeat('.', 70) + "c");
+        EditorPanels w = with("ab", "c", "ab");
+        w.find(1);
+        w.exclude(1, 1);
+        check.due("in a line that was excluded then", w.change(false), 1);
+        check.due("it is so still", Check.texts(w) + Check.counts(w), "|c 1 0 1 0 2 0 0");
     }
 
     @Sentence("(then the cursor is at the last character of the new one")

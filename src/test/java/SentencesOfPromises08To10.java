@@ -60,6 +60,9 @@ public final class SentencesOfPromises08To10 {
         check.due("but the first and the last", Check.texts(x), "|~| |B|a|b|0");
         x.sort(1, 6);
         check.due("all", Check.texts(x), "| |0|B|a|b|~");
+        EditorPanels w = Check.page("b", "aa", "", "aaz", "ab");
+        check.due("not by their lengths", w.sort(1, 5), 4);
+        check.due("not by their lengths", Check.texts(w), "||aa|aaz|ab|b");
         String seventyOne = Check.repeat('m', 71);
         EditorPanels y = Check.page(seventyOne + "b", seventyOne + "a");
         check.due("by the 72nd", y.sort(1, 2), 2);

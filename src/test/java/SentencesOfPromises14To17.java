@@ -166,6 +166,8 @@ public final class SentencesOfPromises14To17 {
             check.due("the panel", x.count(6), 0);
         }
         check.due("and on", x.panel(0, 2), 2);
+        check.due("and to the same one", x.panel(0, 2), 2);
+        check.due("which is the one before, too", x.panel(0, 0), 2);
         EditorPanels y = new EditorPanels(1);
         for (int i = 0; i < 256; i++) {
             y.panel(0, 1 + i % 9);

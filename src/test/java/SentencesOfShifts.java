@@ -23,6 +23,9 @@ public final class SentencesOfShifts {
         check.due("to the 72nd", shifted("ab", 7, 70), Check.repeat(' ', 70) + "ab");
         check.due("behind the 72nd", shifted("ab", 7, 71), "ab!");
         check.due("far behind it", shifted("ab", 7, 100), "ab!");
+        check.due("one character to the 72nd", shifted("a", 7, 71), Check.repeat(' ', 71) + "a");
+        check.due("one character behind it", shifted("a", 7, 72), "a!");
+        check.due("one character far behind it", shifted("a", 7, 100), "a!");
         check.due("a full line", shifted(Check.repeat('a', 72), 7, 1), Check.repeat('a', 72) + "!");
         check.due("a line of 71", shifted(Check.repeat('a', 71), 7, 1), " " + Check.repeat('a', 71));
         check.due("the last one behind blanks", shifted("a" + Check.repeat(' ', 70) + "b", 7, 1),
@@ -82,8 +85,11 @@ public final class SentencesOfShifts {
         Check.sign(y, 1, "aaaa");
         y.change(true);
         check.due("lost by a change", y.count(3), 1);
+        Check.word(y, "b", true);
+        check.due("a change that is done", y.change(true), 4);
+        check.due("does not take it away", y.count(3), 1);
         y.command(1, 7, 1);
-        check.due("that one, too", y.count(3), 0);
+        check.due("a shift does", y.count(3), 0);
         EditorPanels z = Check.page("", "b");
         z.command(2, 8, 1);
         z.command(2, 4, 1);
