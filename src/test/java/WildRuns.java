@@ -24,7 +24,24 @@ public final class WildRuns {
             }
             run.check.end();
         }
+        oneCallAgainAndAgain();
         System.out.println(RUNS + " wild runs threw nothing");
+    }
+
+    /** What grows with each call of a kind must end somewhere. */
+    private static void oneCallAgainAndAgain() {
+        for (int which = 0; which < 16; which++) {
+            WildRuns run = new WildRuns(which);
+            EditorPanels x = new EditorPanels(24);
+            x.line();
+            for (int i = 0; i < CALLS; i++) {
+                run.call(x, which);
+                x.panel(0, which == 13 ? 5 : 0);
+                x.macro(0, which == 12 ? 18 : -1);
+                x.command(1, which == 2 ? 15 : 14, 1);
+            }
+            run.check.end();
+        }
     }
 
     private int any() {
