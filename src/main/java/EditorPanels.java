@@ -949,26 +949,28 @@ public final class EditorPanels {
         }
     }
 
-    /** The states ahead of the last acts, in a ring that has one place more, for a state whose act is not sure yet. */
+    /**
+     * The states ahead of the last acts, in a ring that has one place more, for a state whose act is not sure yet. A
+     * place gets its sheet when it is come to first, and keeps it: most objects see few acts.
+     */
     private static final class History {
         private static final int PLACES = MAX_ACTS + 1;
 
+        private final Text blank;
         private final Sheet[] states = new Sheet[PLACES];
         private int next;
         int size;
 
         History(Text blank) {
-            for (int i = 0; i < PLACES; i++) {
-                states[i] = new Sheet(blank);
-            }
+            this.blank = blank;
         }
 
         void prepare(Sheet sheet) {
-            states[next].become(sheet);
+            stateAt(next).become(sheet);
         }
 
         void keepIfAnother(Sheet sheet) {
-            if (!states[next].isLike(sheet)) {
+            if (!stateAt(next).isLike(sheet)) {
                 keepPrepared();
             }
         }
@@ -984,8 +986,15 @@ public final class EditorPanels {
             }
             size--;
             next = (next + PLACES - 1) % PLACES;
-            sheet.become(states[next]);
+            sheet.become(stateAt(next));
             return true;
+        }
+
+        private Sheet stateAt(int place) {
+            if (states[place] == null) {
+                states[place] = new Sheet(blank);
+            }
+            return states[place];
         }
     }
 

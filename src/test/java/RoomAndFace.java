@@ -6,7 +6,7 @@ import java.lang.reflect.Method;
 import java.lang.reflect.Modifier;
 import java.util.TreeSet;
 
-/** The face is the document's and no more, and the dearest runs of 512 calls stay small. */
+/** The face is the document's and no more, and the dearest runs of 512 calls, and 512 new objects, stay small. */
 public final class RoomAndFace {
     private static final long ROOM_BYTES = 16_000_000L;
 
@@ -15,6 +15,7 @@ public final class RoomAndFace {
         face(check);
         dearRun(check, true);
         dearRun(check, false);
+        manyObjects(check);
         check.end();
     }
 
@@ -67,7 +68,21 @@ public final class RoomAndFace {
         }
         check.due("lines changed", changed, undoing ? 220 * 300 : 71 * 300);
         check.due("lines", x.lines(), 300);
-        long bytes = bean.getThreadAllocatedBytes(thread) - before;
+        small(check, bean.getThreadAllocatedBytes(thread) - before);
+    }
+
+    /** As many objects as one object sees calls. */
+    private static void manyObjects(Check check) {
+        ThreadMXBean bean = (ThreadMXBean) ManagementFactory.getThreadMXBean();
+        long thread = Thread.currentThread().getId();
+        long before = bean.getThreadAllocatedBytes(thread);
+        for (int i = 0; i < 512; i++) {
+            check.due("a new object's lines", new EditorPanels(i).lines(), 0);
+        }
+        small(check, bean.getThreadAllocatedBytes(thread) - before);
+    }
+
+    private static void small(Check check, long bytes) {
         check.due("a run that makes " + bytes + " bytes stays small", bytes < ROOM_BYTES ? 1 : 0, 1);
     }
 }
